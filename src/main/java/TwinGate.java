@@ -318,10 +318,16 @@ public final class TwinGate {
             place++;
             switch (op) {
                 case PLUS:
+                    row[A] = row[A] + row[B];
+                    return trapBeyondBound();
                 case MINUS:
+                    row[A] = row[A] - row[B];
+                    return trapBeyondBound();
                 case TIMES:
+                    return multiply();
                 case NEGATE:
-                    return reckon(op);
+                    row[A] = -row[A];
+                    return trapBeyondBound();
                 case TAKE:
                     row[A] = given[n] * factor;
                     return trapBeyondBound();
@@ -370,25 +376,12 @@ public final class TwinGate {
             }
         }
 
-        private int reckon(int op) {
-            switch (op) {
-                case PLUS:
-                    row[A] = row[A] + row[B];
-                    break;
-                case MINUS:
-                    row[A] = row[A] - row[B];
-                    break;
-                case NEGATE:
-                    row[A] = -row[A];
-                    break;
-                default:
-                    long product = row[A] * row[B];
-                    if (isProductBeyond64Bits(row[A], row[B]) || !isMultiple(product)) {
-                        return TRAPPED;
-                    }
-                    row[A] = part(product);
-                    break;
+        private int multiply() {
+            long product = row[A] * row[B];
+            if (isProductBeyond64Bits(row[A], row[B]) || !isMultiple(product)) {
+                return TRAPPED;
             }
+            row[A] = part(product);
             return trapBeyondBound();
         }
 
@@ -426,7 +419,7 @@ public final class TwinGate {
             if (x == -1) {
                 return y == Long.MIN_VALUE;
             }
-            return x * y / x != y;
+            return (x * y) / x != y;
         }
     }
 }

@@ -181,6 +181,12 @@ public final class CycleTest {
         checks.due("what was left out", go.output(0), 0);
         checks.due("what was done", go.output(1), 2);
         checks.due("steps of go", go.count(3), 8);
+        for (int number : new int[] {-1, 0, 1}) {
+            TwinGate zero = Checks.gate(50, 0, number, 11, 3, 13, 0, 0, 8, 13, 1, 14, 0);
+            checks.due("go if 0", zero.cycle(), 1);
+            checks.due("steps of go if 0 with " + number, zero.count(3), number == 0 ? 10 : 12);
+            checks.due("what was left out with 0", zero.output(0), number);
+        }
         // Counts what is given down to 0 in cell 0, and up in cell 1.
         TwinGate loop = Checks.gate(500, 12, 0, 2, 0, 11, 13, 0, 1, 3, 0, 1, 0, 5, 0, 2, 0,
             1, 1, 4, 0, 2, 1, 1, 0, 10, 2, 1, 1, 13, 0, 14, 0);
@@ -235,6 +241,13 @@ public final class CycleTest {
         b.cycle();
         b.cycle();
         checks.due("B at the beginning is 0", b.output(0), 1);
+        TwinGate halted = Checks.gate(50, 12, 0, 11, 3, 10, 99, 0, 7, 3, 0, 14, 0);
+        checks.due("a cycle that is emitted", halted.cycle(), 1);
+        halted.give(0, 1);
+        checks.due("a cycle whose first copy traps", halted.cycle(), 0);
+        checks.due("A of the second, which did not begin", halted.cell(1, Checks.A), 7 * FACTOR);
+        checks.due("B of the second, which did not begin", halted.cell(1, Checks.B), 7 * FACTOR);
+        checks.due("B of the first, which began", halted.cell(0, Checks.B), 0);
         TwinGate ports = Checks.gate(50, 12, 0, 11, 3, 13, 2, 14, 0);
         ports.give(0, 6);
         ports.cycle();
