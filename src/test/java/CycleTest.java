@@ -16,7 +16,6 @@ public final class CycleTest {
         aTrapOrEndInTheLastStepGoesAhead();
         beginsAnewButForCells();
         gateLooksAtAllPorts();
-        gateGoesRoundAndWants32Bits();
         onceLatchedNothingMoves();
         checks.end();
     }
@@ -275,41 +274,6 @@ public final class CycleTest {
         TwinGate cells = Checks.gate(50, 0, 5, 13, 0, 14, 0);
         cells.flip(0, 7, 1, 0);
         checks.due("a cell that differs is no matter of the gate", cells.cycle(), 1);
-    }
-
-    private static void gateGoesRoundAndWants32Bits() {
-        // 58659 << 63 is one bit alone, as 58659 is odd: both copies agree when it goes round.
-        TwinGate far = Checks.gate(50, 1, 0, 13, 0, 14, 0);
-        far.flip(0, 0, 63, 0);
-        far.flip(1, 0, 63, 0);
-        dueLatched("agreed upon, but not of 32 bits", far, 3, 6);
-        dueStored(Integer.MAX_VALUE, 1);
-        dueStored(Integer.MIN_VALUE, 1);
-        dueStored(Integer.MAX_VALUE + 1L, 0);
-        dueStored(Integer.MIN_VALUE - 1L, 0);
-    }
-
-    /** Flips cells, four bits a cycle, until both copies hold value, and puts it out in the end. */
-    private static void dueStored(long value, int want) {
-        TwinGate gate = Checks.gate(50, 12, 0, 11, 4, 1, 0, 13, 0, 14, 0);
-        for (int bit = 0; bit < 64; bit++) {
-            turnBit(gate, 0, bit, value);
-            turnBit(gate, 1, bit, value * FACTOR);
-        }
-        checks.due("quiet cycle", gate.cycle(), 1);
-        checks.due("first copy's cell", gate.cell(0, 0), value);
-        checks.due("second copy's cell", gate.cell(1, 0), value * FACTOR);
-        gate.give(0, 1);
-        checks.due("put out " + value, gate.cycle(), want);
-        checks.due("output of " + value, gate.output(0), want == 1 ? value : 0);
-        checks.due("why of " + value, gate.count(2), want == 1 ? 0 : 3);
-    }
-
-    private static void turnBit(TwinGate gate, int copy, int bit, long value) {
-        if ((value >>> bit & 1) == 1 && !gate.flip(copy, 0, bit, 0)) {
-            gate.cycle();
-            gate.flip(copy, 0, bit, 0);
-        }
     }
 
     private static void onceLatchedNothingMoves() {
